@@ -92,9 +92,6 @@ public final class BrokeWhere {
         if (!history.hears(version)) {
             return STATE;
         }
-        if (log.count >= MOST_TESTS) {
-            return FULL;
-        }
         return log.add(version, passed);
     }
 
@@ -212,9 +209,6 @@ public final class BrokeWhere {
         if (!isFrom(sign, 33, 126)) {
             return OUTSIDE;
         }
-        if (signs.length >= MOST_SIGNS) {
-            return FULL;
-        }
         return signs.add(sign);
     }
 
@@ -242,7 +236,7 @@ public final class BrokeWhere {
             return OUTSIDE;
         }
         if (what == 1) {
-            return asNumber(history.isSound(set));
+            return asNumber(families.isSound(set));
         }
         if (verdict.length < 1) {
             return STATE;
@@ -450,7 +444,11 @@ public final class BrokeWhere {
     }
 
     private static boolean isAmong(long[] row, int set) {
-        return (row[set >> LOW_CHANGES] >>> (set & (SETS_OF_WORD - 1)) & 1L) != 0;
+        return isOfWord(row[set >> LOW_CHANGES], set);
+    }
+
+    private static boolean isOfWord(long sets, int set) {
+        return (sets >>> (set & (SETS_OF_WORD - 1)) & 1L) != 0;
     }
 
     /** The versions, each with the change of its own number, and what is set of them. */
@@ -554,15 +552,6 @@ public final class BrokeWhere {
             }
             return sum;
         }
-
-        boolean isSound(int set) {
-            for (int c = 0; c < count; c++) {
-                if (isBit(set, c) && (needs[c] & ~set) != 0) {
-                    return false;
-                }
-            }
-            return true;
-        }
     }
 
     /** The tests, in their order. */
@@ -571,6 +560,7 @@ public final class BrokeWhere {
         final int[] version = new int[MOST_TESTS];
         final boolean[] passed = new boolean[MOST_TESTS];
 
+        /** Its number; FULL. */
         int add(int itsVersion, boolean itPassed) {
             int made = count;
             if (made >= MOST_TESTS) {
@@ -813,11 +803,13 @@ public final class BrokeWhere {
         // For each text that must still come, within how many others it lies.
         final int[] due = new int[MOST_SIGNS + 2];
 
+        /** How many signs there are then; FULL. */
         int add(int sign) {
-            if (length < MOST_SIGNS) {
-                signs[length] = sign;
-                length++;
+            if (length >= MOST_SIGNS) {
+                return FULL;
             }
+            signs[length] = sign;
+            length++;
             return length;
         }
 
@@ -917,6 +909,10 @@ public final class BrokeWhere {
                 }
             }
             return sets;
+        }
+
+        boolean isSound(int set) {
+            return isOfWord(soundSets(set >> LOW_CHANGES), set);
         }
 
         /** The set to take out of these changes; NO. */

@@ -65,17 +65,37 @@ public final class ModelTest {
         due("version(" + on + ", " + other + ", " + size + ")", x.version(on, other, size), m.version(on, other, size));
     }
 
+    /** A number from far away, where the machine's arithmetic wraps round. */
+    private int far() {
+        return switch (random.nextInt(4)) {
+            case 0 -> Integer.MIN_VALUE + random.nextInt(3);
+            case 1 -> Integer.MAX_VALUE - random.nextInt(3);
+            case 2 -> 1 << random.nextInt(32);
+            default -> random.nextInt();
+        };
+    }
+
+    private boolean rarely() {
+        return random.nextInt(40) == 0;
+    }
+
     private int change() {
+        if (rarely()) {
+            return far();
+        }
         return random.nextInt(12) == 0 ? any(-2, 13) : any(0, Math.max(0, m.n() - 1));
     }
 
     private int part() {
+        if (rarely()) {
+            return far();
+        }
         return random.nextInt(12) == 0 ? any(-1, 2) : any(0, 1);
     }
 
     private void step() {
         switch (random.nextInt(20)) {
-            case 0 -> version(any(-2, 12), any(-2, 12), any(0, 10));
+            case 0 -> version(rarely() ? far() : any(-2, 12), rarely() ? far() : any(-2, 12), any(0, 10));
             case 1, 2 -> change(change());
             case 3 -> trusting();
             case 4, 5, 6 -> testing();
@@ -87,17 +107,19 @@ public final class ModelTest {
     }
 
     private void change(int v) {
-        int what = any(-1, 4);
+        int what = rarely() ? far() : any(-1, 4);
         int to = what == 2 ? any(-1, 1 << Math.max(0, Math.min(v, 12))) & any(-1, 4095) : any(-1, 10);
-        if (what == 3) {
+        if (rarely()) {
+            to = far();
+        } else if (what == 3) {
             to = random.nextInt(10) == 0 ? any(-1, 2) : any(0, 3) / 3;
         }
         due("set(" + v + ", " + what + ", " + to + ")", x.set(v, what, to), m.set(v, what, to));
     }
 
     private void trusting() {
-        int which = any(-1, 5);
-        int v = any(-1, which < 2 ? 6 : 10);
+        int which = rarely() ? far() : any(-1, 5);
+        int v = rarely() ? far() : any(-1, which < 2 ? 6 : 10);
         due("trust(" + which + ", " + v + ")", x.trust(which, v), m.trust(which, v));
     }
 
@@ -145,7 +167,7 @@ public final class ModelTest {
         String often = "!&|abcdefghijklm!&|";
         int count = any(1, 14);
         for (int i = 0; i < count; i++) {
-            say(random.nextInt(15) == 0 ? any(30, 130) : often.charAt(random.nextInt(often.length())));
+            say(rarely() ? far() : random.nextInt(15) == 0 ? any(30, 130) : often.charAt(random.nextInt(often.length())));
             due("fault()", x.fault(), m.fault());
         }
         if (random.nextInt(3) > 0) {
@@ -155,7 +177,7 @@ public final class ModelTest {
 
     private void play() {
         if (random.nextInt(3) == 0) {
-            int limit = any(0, 11);
+            int limit = rarely() ? far() : any(0, 11);
             due("play(" + limit + ")", x.play(limit), m.play(limit));
             for (int t = 0; t < 13; t++) {
                 due("tested(" + t + ", 0)", x.tested(t, 0), m.tested(t, 0));
@@ -168,8 +190,8 @@ public final class ModelTest {
         int a = change();
         int b = change();
         int p = part();
-        int sort = random.nextInt(12) == 0 ? any(-1, 3) : any(0, 2);
-        int set = random.nextInt(8) == 0 ? any(-2, 4200) : any(0, 4095) & ((1 << m.n()) - 1);
+        int sort = rarely() ? far() : random.nextInt(12) == 0 ? any(-1, 3) : any(0, 2);
+        int set = rarely() ? far() : random.nextInt(8) == 0 ? any(-2, 4200) : any(0, 4095) & ((1 << m.n()) - 1);
         switch (random.nextInt(17)) {
             case 0 -> due("has " + a, x.has(a), m.has(a));
             case 1 -> due("tested " + a + " " + p, x.tested(a, p), m.tested(a, p));

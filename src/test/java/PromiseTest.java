@@ -406,6 +406,7 @@ public final class PromiseTest {
 
     private static void next() {
         promise = 15;
+        nextOfPairs();
         BrokeWhere x = chain(1, 1, 1, 1);
         due("halves", x.next(0), 1);
         x.set(1, 3, 1);
@@ -433,6 +434,21 @@ public final class PromiseTest {
         due("none", z.next(0), NONE);
         due("none", z.next(1), NONE);
         due("no versions", new BrokeWhere().next(0), NONE);
+    }
+
+    private static void nextOfPairs() {
+        BrokeWhere x = chain(1, 1, 1, 1);
+        x.trust(2, 0);
+        x.trust(3, 1);
+        // BOTH, six stories: version 1 should fail by one of them, version 2 by three, version 3 by all
+        due("halves of BOTH", x.next(0), 2);
+        due("hope of BOTH, 1 and 1 of 6", x.hope(1, 1), 3);
+        due("hope of BOTH, none by which version 0 fails", x.hope(0, 1), 6);
+        x.trust(3, 0);
+        x.trust(4, 1);
+        // MENDED, twelve: version 0 fails by 3 of them (0 and another one), version 1 by 4, version 2 by 3
+        due("halves of MENDED", x.next(0), 1);
+        due("hope of MENDED, none by which version 3 fails", x.hope(3, 1), 12);
     }
 
     private static void worst() {
@@ -745,7 +761,23 @@ public final class PromiseTest {
         due("c without b", x.core(3, 0), 4);
         x.set(2, 2, 2);
         due("c needs b", x.core(3, -1), 0);
+        tell(x, "b");
+        due("b needs a", x.core(3, 0), 3);
         coresAcross();
+        coresBelowSetsThatPass();
+    }
+
+    /** A part that fails counts, though sets between the two do not fail. */
+    private static void coresBelowSetsThatPass() {
+        BrokeWhere x = chain(1, 1, 1, 1, 1, 1, 1, 1, 1, 1, 1, 1);
+        tell(x, "|&ab&!a!b");
+        due("none or both of a, b", x.core(11, -1), 1);
+        due("none of a, b", x.core(11, 0), 0);
+        tell(x, "|&gh&!g!h");
+        due("none or both of g, h", x.core(11, -1), 1);
+        tell(x, "&l|&fg&!f!g");
+        due("l, with none or both of f, g", x.core(11, -1), 1);
+        due("l", x.core(11, 0), 2048);
     }
 
     private static void coresAcross() {
