@@ -13,7 +13,8 @@ public final class BrokeWhere {
     private static final int SIZE = 0, COST = 1, NEEDS = 2, DEAF = 3;
     private static final int MISS = 0, FALSE = 1, FAITH = 2, TRUSTS = 5;
     private static final int ONE = 0, BOTH = 1, MENDED = 2, SORTS = 3;
-    private static final int STORIES = SORTS * MOST_VERSIONS * MOST_VERSIONS;
+    // ONE for each change, BOTH for each pair, MENDED for each pair twice.
+    private static final int MOST_STORIES = MOST_VERSIONS + 3 * MOST_VERSIONS * (MOST_VERSIONS - 1) / 2;
     private static final int HALVES = 0, HOPE = 1;
     private static final int NO_TEXT = -1;
 
@@ -159,14 +160,15 @@ public final class BrokeWhere {
         if (stories.all == 0) {
             return NO;
         }
-        int sort = sortAt(stories.heaviest);
+        int story = stories.heaviest;
+        int sort = sortAt(story);
         switch (what) {
             case 0:
                 return sort;
             case 1:
-                return firstAt(stories.heaviest);
+                return firstAt(story);
             default:
-                return sort == ONE ? NONE : secondAt(stories.heaviest);
+                return sort == ONE ? NONE : secondAt(story);
         }
     }
 
@@ -587,11 +589,14 @@ public final class BrokeWhere {
         final History history;
         final Log log;
         final int[] trusts = new int[TRUSTS];
-        // A story that can not be has weight 0 here; of ONE the second change is the first again.
-        final long[] weights = new long[STORIES];
-        final int[] failing = new int[STORIES];
+        // The stories that have a weight, in their order; of ONE the second change is the first again.
+        int count;
+        final int[] places = new int[MOST_STORIES];
+        final long[] weights = new long[MOST_STORIES];
+        final int[] failing = new int[MOST_STORIES];
         long all;
         int heaviest;
+        long most;
 
         Stories(History history, Log log) {
             this.history = history;
@@ -626,15 +631,17 @@ public final class BrokeWhere {
                 product *= history.size[second];
             }
             int bits = failingOf(sort, first, second);
-            for (int t = 0; t < log.count; t++) {
+            for (int t = 0; t < log.count && product != 0; t++) {
                 product *= tenths(isBit(bits, log.version[t]), log.passed[t]);
             }
             return product;
         }
 
         void weigh() {
+            count = 0;
             all = 0;
             heaviest = 0;
+            most = 0;
             for (int sort = 0; sort < SORTS; sort++) {
                 for (int first = 0; first < history.count; first++) {
                     weighFrom(sort, first);
@@ -646,33 +653,44 @@ public final class BrokeWhere {
             int from = sort == ONE ? first : sort == BOTH ? first + 1 : 0;
             int to = sort == ONE ? first + 1 : history.count;
             for (int second = from; second < to; second++) {
-                if (sort == MENDED && second == first) {
-                    continue;
-                }
-                int story = storyAt(sort, first, second);
-                weights[story] = weightOf(sort, first, second);
-                failing[story] = failingOf(sort, first, second);
-                all += weights[story];
-                if (weights[story] > weights[heaviest]) {
-                    heaviest = story;
+                if (sort != MENDED || second != first) {
+                    take(sort, first, second);
                 }
             }
         }
 
+        private void take(int sort, int first, int second) {
+            long itsWeight = weightOf(sort, first, second);
+            if (itsWeight == 0 || count >= MOST_STORIES) {
+                return;
+            }
+            places[count] = storyAt(sort, first, second);
+            weights[count] = itsWeight;
+            failing[count] = failingOf(sort, first, second);
+            all += itsWeight;
+            if (itsWeight > most) {
+                most = itsWeight;
+                heaviest = places[count];
+            }
+            count++;
+        }
+
         long weightOfSort(int sort) {
             long sum = 0;
-            for (int story = storyAt(sort, 0, 0); story < storyAt(sort + 1, 0, 0); story++) {
-                sum += weights[story];
+            for (int i = 0; i < count; i++) {
+                if (sortAt(places[i]) == sort) {
+                    sum += weights[i];
+                }
             }
             return sum;
         }
 
         long weightBlaming(int change) {
             long sum = 0;
-            for (int story = 0; story < STORIES; story++) {
-                boolean second = sortAt(story) == BOTH && secondAt(story) == change;
-                if (firstAt(story) == change || second) {
-                    sum += weights[story];
+            for (int i = 0; i < count; i++) {
+                boolean isSecond = sortAt(places[i]) == BOTH && secondAt(places[i]) == change;
+                if (firstAt(places[i]) == change || isSecond) {
+                    sum += weights[i];
                 }
             }
             return sum;
@@ -680,27 +698,25 @@ public final class BrokeWhere {
 
         /** The most weight behind a pass and behind a fail together: ten times what the guess will be right by. */
         long hopeWeight(int version) {
-            long passes = 0;
-            long fails = 0;
-            for (int story = 0; story < STORIES; story++) {
-                if (weights[story] > 0) {
-                    boolean shouldFail = isBit(failing[story], version);
-                    passes = Math.max(passes, weights[story] * tenths(shouldFail, true));
-                    fails = Math.max(fails, weights[story] * tenths(shouldFail, false));
-                }
+            long behindPass = 0;
+            long behindFail = 0;
+            for (int i = 0; i < count; i++) {
+                boolean shouldFail = isBit(failing[i], version);
+                behindPass = Math.max(behindPass, weights[i] * tenths(shouldFail, true));
+                behindFail = Math.max(behindFail, weights[i] * tenths(shouldFail, false));
             }
-            return passes + fails;
+            return behindPass + behindFail;
         }
 
         /** How far the weights by which it should fail and all others are apart. */
         long gap(int version) {
-            long fails = 0;
-            for (int story = 0; story < STORIES; story++) {
-                if (isBit(failing[story], version)) {
-                    fails += weights[story];
+            long shouldFail = 0;
+            for (int i = 0; i < count; i++) {
+                if (isBit(failing[i], version)) {
+                    shouldFail += weights[i];
                 }
             }
-            return Math.abs(all - 2 * fails);
+            return Math.abs(all - 2 * shouldFail);
         }
 
         int nextVersion(int how) {
@@ -721,7 +737,7 @@ public final class BrokeWhere {
         }
 
         boolean guessIsBelow(int limit) {
-            return all == 0 || 10 * weights[heaviest] < limit * all;
+            return all == 0 || 10 * most < limit * all;
         }
     }
 
