@@ -377,6 +377,11 @@ public final class PromiseTest {
         due("all weights are 0", x.guess(0), NO);
         due("outside ahead", x.guess(3), OUTSIDE);
         due("no versions", new BrokeWhere().guess(1), NO);
+        BrokeWhere light = chain(1, 1);
+        light.trust(2, 0);
+        light.trust(4, 1);
+        due("the least weight there can be", light.guess(0), 2);
+        due("the least weight there can be", light.guess(2), 1);
     }
 
     private static void hope() {
