@@ -34,42 +34,11 @@ public final class PromiseTest {
         out();
         core();
         told();
-        refusalsChangeNothing();
         CHECK.end();
     }
 
     private static void due(String call, long got, long want) {
         CHECK.due("promise " + promise + " " + call, got, want);
-    }
-
-    /** A row of versions, each on the one ahead of it, with these sizes. */
-    private static BrokeWhere chain(int... sizes) {
-        BrokeWhere x = new BrokeWhere();
-        for (int i = 0; i < sizes.length; i++) {
-            x.version(i - 1, -1, sizes[i]);
-        }
-        return x;
-    }
-
-    /** Versions on none. */
-    private static BrokeWhere apart(int... sizes) {
-        BrokeWhere x = new BrokeWhere();
-        for (int size : sizes) {
-            x.version(-1, -1, size);
-        }
-        return x;
-    }
-
-    private static void say(BrokeWhere x, String text) {
-        for (int i = 0; i < text.length(); i++) {
-            x.say(text.charAt(i));
-        }
-    }
-
-    private static int tell(BrokeWhere x, String text) {
-        x.wipe();
-        say(x, text);
-        return x.truth();
     }
 
     private static void newObject() {
@@ -118,7 +87,7 @@ public final class PromiseTest {
 
     private static void has() {
         promise = 3;
-        BrokeWhere x = chain(1, 1, 1);
+        BrokeWhere x = Made.chain(1, 1, 1);
         x.version(0, -1, 1);
         x.version(2, 3, 1);
         x.version(-1, -1, 1);
@@ -134,7 +103,7 @@ public final class PromiseTest {
 
     private static void set() {
         promise = 4;
-        BrokeWhere x = chain(4, 5, 6);
+        BrokeWhere x = Made.chain(4, 5, 6);
         due("size was", x.set(1, 0, 9), 5);
         due("size was", x.set(1, 0, 1), 9);
         due("cost was", x.set(1, 1, 7), 1);
@@ -187,7 +156,7 @@ public final class PromiseTest {
 
     private static void test() {
         promise = 6;
-        BrokeWhere x = chain(1, 1);
+        BrokeWhere x = Made.chain(1, 1);
         due("first", x.test(0, true), 0);
         due("second", x.test(1, false), 1);
         due("unknown", x.test(2, true), UNKNOWN);
@@ -205,7 +174,7 @@ public final class PromiseTest {
 
     private static void tested() {
         promise = 7;
-        BrokeWhere x = chain(1, 1, 1);
+        BrokeWhere x = Made.chain(1, 1, 1);
         x.test(2, true);
         x.test(1, false);
         due("version", x.tested(0, 0), 2);
@@ -222,7 +191,7 @@ public final class PromiseTest {
 
     private static void untest() {
         promise = 8;
-        BrokeWhere x = chain(1, 1);
+        BrokeWhere x = Made.chain(1, 1);
         due("none", x.untest(), NO);
         x.test(0, true);
         x.test(1, true);
@@ -234,7 +203,7 @@ public final class PromiseTest {
 
     private static void weight() {
         promise = 9;
-        BrokeWhere x = chain(2, 3, 5);
+        BrokeWhere x = Made.chain(2, 3, 5);
         due("one", x.weight(0, 1, 77), 3);
         due("one, other not looked at", x.weight(0, 1, 1), 3);
         due("no faith", x.weight(1, 0, 1), 0);
@@ -269,7 +238,7 @@ public final class PromiseTest {
     }
 
     private static void mostWeight() {
-        BrokeWhere x = chain(9, 9);
+        BrokeWhere x = Made.chain(9, 9);
         x.trust(3, 9);
         for (int i = 0; i < 12; i++) {
             x.test(1, false);
@@ -279,7 +248,7 @@ public final class PromiseTest {
 
     private static void odds() {
         promise = 10;
-        BrokeWhere x = chain(2, 3, 5);
+        BrokeWhere x = Made.chain(2, 3, 5);
         due("upper", x.odds(0, 0, 0, 0), 1);
         due("lower", x.odds(0, 0, 0, 1), 5);
         due("upper", x.odds(0, 1, 0, 0), 3);
@@ -305,7 +274,7 @@ public final class PromiseTest {
 
     private static void sorts() {
         promise = 11;
-        BrokeWhere x = chain(2, 3, 5);
+        BrokeWhere x = Made.chain(2, 3, 5);
         due("alone", x.sorts(0, 0), 1);
         due("alone", x.sorts(0, 1), 1);
         x.trust(3, 2);
@@ -322,7 +291,7 @@ public final class PromiseTest {
         BrokeWhere empty = new BrokeWhere();
         due("no versions", empty.sorts(2, 0), 0);
         due("no versions", empty.sorts(2, 1), 1);
-        BrokeWhere alone = chain(7);
+        BrokeWhere alone = Made.chain(7);
         alone.trust(3, 9);
         due("one version: no pair", alone.sorts(1, 1), 1);
         due("one version: no pair", alone.sorts(0, 0), 1);
@@ -330,7 +299,7 @@ public final class PromiseTest {
 
     private static void blame() {
         promise = 12;
-        BrokeWhere x = chain(2, 3, 5);
+        BrokeWhere x = Made.chain(2, 3, 5);
         due("one", x.blame(2, 0), 1);
         due("one", x.blame(2, 1), 2);
         x.trust(2, 0);
@@ -356,7 +325,7 @@ public final class PromiseTest {
 
     private static void guess() {
         promise = 13;
-        BrokeWhere x = chain(2, 5, 5);
+        BrokeWhere x = Made.chain(2, 5, 5);
         due("sort", x.guess(0), 0);
         due("the first of several", x.guess(1), 1);
         due("no other one", x.guess(2), NONE);
@@ -377,7 +346,7 @@ public final class PromiseTest {
         due("all weights are 0", x.guess(0), NO);
         due("outside ahead", x.guess(3), OUTSIDE);
         due("no versions", new BrokeWhere().guess(1), NO);
-        BrokeWhere light = chain(1, 1);
+        BrokeWhere light = Made.chain(1, 1);
         light.trust(2, 0);
         light.trust(4, 1);
         due("the least weight there can be", light.guess(0), 2);
@@ -386,7 +355,7 @@ public final class PromiseTest {
 
     private static void hope() {
         promise = 14;
-        BrokeWhere x = chain(1, 2, 3, 4);
+        BrokeWhere x = Made.chain(1, 2, 3, 4);
         // tests tell the truth: the most of those that it has and the most of the others, of 10
         due("first: 1 and 4", x.hope(0, 0), 1);
         due("first", x.hope(0, 1), 2);
@@ -412,7 +381,7 @@ public final class PromiseTest {
     private static void next() {
         promise = 15;
         nextOfPairs();
-        BrokeWhere x = chain(1, 1, 1, 1);
+        BrokeWhere x = Made.chain(1, 1, 1, 1);
         due("halves", x.next(0), 1);
         x.set(1, 3, 1);
         due("halves, deaf", x.next(0), 0);
@@ -423,11 +392,11 @@ public final class PromiseTest {
         due("halves, the least number", x.next(0), 0);
         due("outside", x.next(2), OUTSIDE);
         due("outside", x.next(-1), OUTSIDE);
-        BrokeWhere y = chain(1, 2, 3, 4);
+        BrokeWhere y = Made.chain(1, 2, 3, 4);
         due("hope", y.next(1), 2);
         y.set(2, 1, 9);
         due("hope ahead of cost", y.next(1), 2);
-        BrokeWhere z = apart(1, 1, 1);
+        BrokeWhere z = Made.apart(1, 1, 1);
         z.set(0, 1, 2);
         due("hope, the least cost", z.next(1), 1);
         z.trust(2, 0);
@@ -442,7 +411,7 @@ public final class PromiseTest {
     }
 
     private static void nextOfPairs() {
-        BrokeWhere x = chain(1, 1, 1, 1);
+        BrokeWhere x = Made.chain(1, 1, 1, 1);
         x.trust(2, 0);
         x.trust(3, 1);
         // BOTH, six stories: version 1 should fail by one of them, version 2 by three, version 3 by all
@@ -458,7 +427,7 @@ public final class PromiseTest {
 
     private static void worst() {
         promise = 16;
-        BrokeWhere x = chain(1, 1, 1, 1, 1);
+        BrokeWhere x = Made.chain(1, 1, 1, 1, 1);
         due("five in a row", x.worst(31, 0), 3);
         due("five in a row: 1 and 4 would be too many", x.worst(31, 1), 0);
         due("four", x.worst(30, 0), 2);
@@ -484,14 +453,14 @@ public final class PromiseTest {
         due("deaf", x.worst(12, 1), NONE);
         x.version(4, -1, 1);
         due("another version", x.worst(63, 0), 3);
-        BrokeWhere y = apart(1, 1, 1, 1, 1, 1, 1, 1, 1, 1, 1, 1);
+        BrokeWhere y = Made.apart(1, 1, 1, 1, 1, 1, 1, 1, 1, 1, 1, 1);
         due("each alone", y.worst(4095, 0), 11);
         due("each alone", y.worst(4095, 1), 0);
     }
 
     private static void mean() {
         promise = 17;
-        BrokeWhere x = chain(1, 2, 3, 4);
+        BrokeWhere x = Made.chain(1, 2, 3, 4);
         // 3 | 2 | 1, 0: each test costs all sizes that are left: 10 + 6 + 3; by halves 10 + 3 + 7
         due("sum", x.mean(15, 0), 19);
         due("start", x.mean(15, 1), 2);
@@ -519,7 +488,7 @@ public final class PromiseTest {
 
     private static void twins() {
         promise = 18;
-        BrokeWhere x = chain(1, 1, 1);
+        BrokeWhere x = Made.chain(1, 1, 1);
         x.version(0, -1, 1);
         due("told apart", x.twins(1), 2);
         x.set(1, 3, 1);
@@ -556,8 +525,8 @@ public final class PromiseTest {
         promise = 20;
         BrokeWhere x = new BrokeWhere();
         due("none", x.wipe(), 0);
-        tell(x, "!a");
-        say(x, "abc");
+        Made.tell(x, "!a");
+        Made.say(x, "abc");
         due("three", x.wipe(), 3);
         due("none are left", x.told(2), 0);
         due("the truth stays", x.told(3), 2);
@@ -567,7 +536,7 @@ public final class PromiseTest {
 
     private static int faultOf(String text) {
         BrokeWhere x = new BrokeWhere();
-        say(x, text);
+        Made.say(x, text);
         return x.fault();
     }
 
@@ -601,21 +570,21 @@ public final class PromiseTest {
         promise = 22;
         BrokeWhere x = new BrokeWhere();
         due("empty", x.truth(), NO);
-        say(x, "&a");
+        Made.say(x, "&a");
         due("more must come", x.truth(), NO);
         due("they stay", x.told(2), 2);
         due("no truth", x.told(3), 0);
-        say(x, "b");
+        Made.say(x, "b");
         due("told", x.truth(), 3);
         due("signs are empty", x.told(2), 0);
         due("signs of it", x.told(3), 3);
         due("both", x.fails(3, 0), 1);
         due("not both", x.fails(2, 0), 0);
-        say(x, "z");
+        Made.say(x, "z");
         due("fault", x.truth(), NO);
         due("the old one stays", x.fails(3, 0), 1);
         x.wipe();
-        say(x, "!l");
+        Made.say(x, "!l");
         due("another one", x.truth(), 2);
         due("another one", x.fails(2047, 0), 1);
         due("another one", x.fails(2048, 0), 0);
@@ -632,20 +601,20 @@ public final class PromiseTest {
         due("what", x.fails(0, 2), OUTSIDE);
         due("what", x.fails(0, -1), OUTSIDE);
         for (int c = 0; c < 12; c++) {
-            tell(x, "" + (char) ('a' + c));
+            Made.tell(x, "" + (char) ('a' + c));
             due("letter", x.fails(1 << c, 0), 1);
             due("all others", x.fails(4095 ^ 1 << c, 0), 0);
         }
-        tell(x, "|&agl");
+        Made.tell(x, "|&agl");
         due("a and g", x.fails(65, 0), 1);
         due("a alone", x.fails(1, 0), 0);
         due("g alone", x.fails(64, 0), 0);
         due("l", x.fails(2048, 0), 1);
-        tell(x, "&!ab");
+        Made.tell(x, "&!ab");
         due("not a, b", x.fails(2, 0), 1);
         due("a, b", x.fails(3, 0), 0);
         due("neither", x.fails(0, 0), 0);
-        BrokeWhere y = chain(1, 1, 1);
+        BrokeWhere y = Made.chain(1, 1, 1);
         y.set(2, 2, 3);
         y.set(1, 2, 1);
         due("all", y.fails(7, 1), 1);
@@ -658,11 +627,11 @@ public final class PromiseTest {
 
     private static void play() {
         promise = 24;
-        BrokeWhere x = chain(1, 1, 1, 1);
+        BrokeWhere x = Made.chain(1, 1, 1, 1);
         due("no truth", x.play(5), STATE);
         due("outside ahead", x.play(0), OUTSIDE);
         due("outside", x.play(11), OUTSIDE);
-        tell(x, "c");
+        Made.tell(x, "c");
         x.test(0, false);
         due("a, b, then c are tested", x.play(10), 3);
         due("first test", x.tested(0, 0), 0);
@@ -685,14 +654,14 @@ public final class PromiseTest {
         due("no version can be tested", x.play(5), NO);
         due("outside ahead of no", x.play(0), OUTSIDE);
         BrokeWhere y = new BrokeWhere();
-        tell(y, "a");
+        Made.tell(y, "a");
         due("no versions", y.play(1), NO);
         playAgainstAll();
     }
 
     private static void playAgainstAll() {
-        BrokeWhere x = chain(1, 1);
-        tell(x, "b");
+        BrokeWhere x = Made.chain(1, 1);
+        Made.tell(x, "b");
         x.trust(2, 0);
         due("all weights are 0", x.play(1), 12);
         due("of the least number", x.tested(11, 0), 0);
@@ -706,26 +675,26 @@ public final class PromiseTest {
 
     private static void out() {
         promise = 25;
-        BrokeWhere x = chain(2, 3, 1, 3);
+        BrokeWhere x = Made.chain(2, 3, 1, 3);
         due("no truth", x.out(3, 0), STATE);
         due("outside ahead", x.out(3, 2), OUTSIDE);
         due("unknown ahead", x.out(4, 2), UNKNOWN);
-        tell(x, "&bc");
+        Made.tell(x, "&bc");
         due("the least sum", x.out(3, 0), 4);
         due("the least sum", x.out(3, 1), 1);
         due("nothing to take out", x.out(1, 0), 0);
         due("nothing to take out", x.out(1, 1), 0);
-        tell(x, "&bd");
+        Made.tell(x, "&bd");
         due("the least as bits", x.out(3, 0), 2);
         x.set(2, 2, 2);
         due("2 needs it: the other one", x.out(3, 0), 8);
         x.set(3, 2, 4);
         due("one alone", x.out(3, 0), 8);
-        tell(x, "b");
+        Made.tell(x, "b");
         due("all that need it", x.out(3, 0), 14);
         due("their sizes", x.out(3, 1), 7);
         due("of another version", x.out(2, 0), 6);
-        tell(x, "!d");
+        Made.tell(x, "!d");
         due("nothing does", x.out(2, 0), NO);
         due("nothing does", x.out(2, 1), NO);
         due("it passes", x.out(3, 0), 0);
@@ -735,11 +704,11 @@ public final class PromiseTest {
 
     private static void core() {
         promise = 26;
-        BrokeWhere x = chain(1, 1, 1, 1);
+        BrokeWhere x = Made.chain(1, 1, 1, 1);
         due("no truth", x.core(3, 0), STATE);
         due("unknown ahead", x.core(4, -1), UNKNOWN);
         due("unknown", x.core(-1, -1), UNKNOWN);
-        tell(x, "|&abd");
+        Made.tell(x, "|&abd");
         due("two", x.core(3, -1), 2);
         due("first", x.core(3, 0), 3);
         due("second", x.core(3, 1), 8);
@@ -759,14 +728,14 @@ public final class PromiseTest {
         due("9", x.core(3, 1), 9);
         x.set(3, 2, 3);
         due("it has a part that fails", x.core(3, -1), 1);
-        tell(x, "!a");
+        Made.tell(x, "!a");
         due("the empty one", x.core(3, -1), 1);
         due("the empty one", x.core(3, 0), 0);
-        tell(x, "&!bc");
+        Made.tell(x, "&!bc");
         due("c without b", x.core(3, 0), 4);
         x.set(2, 2, 2);
         due("c needs b", x.core(3, -1), 0);
-        tell(x, "b");
+        Made.tell(x, "b");
         due("b needs a", x.core(3, 0), 3);
         coresAcross();
         coresBelowSetsThatPass();
@@ -774,26 +743,26 @@ public final class PromiseTest {
 
     /** A part that fails counts, though sets between the two do not fail. */
     private static void coresBelowSetsThatPass() {
-        BrokeWhere x = chain(1, 1, 1, 1, 1, 1, 1, 1, 1, 1, 1, 1);
-        tell(x, "|&ab&!a!b");
+        BrokeWhere x = Made.chain(1, 1, 1, 1, 1, 1, 1, 1, 1, 1, 1, 1);
+        Made.tell(x, "|&ab&!a!b");
         due("none or both of a, b", x.core(11, -1), 1);
         due("none of a, b", x.core(11, 0), 0);
-        tell(x, "|&gh&!g!h");
+        Made.tell(x, "|&gh&!g!h");
         due("none or both of g, h", x.core(11, -1), 1);
-        tell(x, "&l|&fg&!f!g");
+        Made.tell(x, "&l|&fg&!f!g");
         due("l, with none or both of f, g", x.core(11, -1), 1);
         due("l", x.core(11, 0), 2048);
     }
 
     private static void coresAcross() {
-        BrokeWhere x = chain(1, 1, 1, 1, 1, 1, 1, 1, 1, 1, 1, 1);
-        tell(x, "|&bh|&gl&fk");
+        BrokeWhere x = Made.chain(1, 1, 1, 1, 1, 1, 1, 1, 1, 1, 1, 1);
+        Made.tell(x, "|&bh|&gl&fk");
         due("across", x.core(11, -1), 3);
         due("bh", x.core(11, 0), 2 + 128);
         due("fk", x.core(11, 1), 32 + 1024);
         due("gl", x.core(11, 2), 64 + 2048);
         due("of less", x.core(10, -1), 2);
-        tell(x, "|l|g|a|b&cd");
+        Made.tell(x, "|l|g|a|b&cd");
         due("five", x.core(11, -1), 5);
         due("the last one", x.core(11, 4), 2048);
         due("the third one", x.core(11, 2), 12);
@@ -801,11 +770,11 @@ public final class PromiseTest {
 
     private static void told() {
         promise = 27;
-        BrokeWhere x = chain(3, 4);
+        BrokeWhere x = Made.chain(3, 4);
         x.test(0, true);
-        say(x, "&ab");
+        Made.say(x, "&ab");
         x.truth();
-        say(x, "xy");
+        Made.say(x, "xy");
         int[] trusts = {5, 4, 9, 8, 7};
         for (int i = 0; i < 5; i++) {
             x.trust(i, trusts[i]);
@@ -833,51 +802,5 @@ public final class PromiseTest {
         for (int what : outside) {
             due("outside " + what, x.told(what), OUTSIDE);
         }
-    }
-
-    /** Everything told() and the tests say, as one text. */
-    private static String all(BrokeWhere x) {
-        StringBuilder s = new StringBuilder();
-        for (int what = 0; what < 62; what++) {
-            s.append(x.told(what)).append(' ');
-        }
-        for (int t = 0; t < 12; t++) {
-            s.append(x.tested(t, 0)).append(' ').append(x.tested(t, 1)).append(' ');
-        }
-        return s.append(x.fault()).append(' ').append(x.fails(5, 0)).toString();
-    }
-
-    private static void refusalsChangeNothing() {
-        promise = 0;
-        BrokeWhere x = chain(3, 4, 5);
-        tell(x, "&ac");
-        say(x, "x");
-        x.test(0, true);
-        x.test(1, false);
-        String was = all(x);
-        x.version(9, -1, 1);
-        x.version(0, -1, 10);
-        x.set(0, 3, 1);
-        x.set(0, 1, 10);
-        x.set(1, 2, 2);
-        x.trust(0, 6);
-        x.trust(3, 10);
-        x.test(3, true);
-        x.say(32);
-        x.truth();
-        x.play(0);
-        x.play(11);
-        x.hope(0, 2);
-        x.guess(3);
-        CHECK.so("refused calls change nothing", was.equals(all(x)));
-        x.guess(0);
-        x.next(1);
-        x.hope(1, 0);
-        x.worst(7, 0);
-        x.mean(7, 1);
-        x.out(2, 0);
-        x.core(2, -1);
-        x.odds(0, 0, 0, 0);
-        CHECK.so("asking changes nothing", was.equals(all(x)));
     }
 }
