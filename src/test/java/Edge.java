@@ -48,13 +48,13 @@ final class Edge {
     }
 
     void worst(BrokeWhere x, int set, int tests, int start) {
-        due("worst(" + set + ", 0)", x.worst(set, 0), tests);
         due("worst(" + set + ", 1)", x.worst(set, 1), start);
+        due("worst(" + set + ", 0)", x.worst(set, 0), tests);
     }
 
     void mean(BrokeWhere x, int set, int sum, int start) {
-        due("mean(" + set + ", 0)", x.mean(set, 0), sum);
         due("mean(" + set + ", 1)", x.mean(set, 1), start);
+        due("mean(" + set + ", 0)", x.mean(set, 0), sum);
     }
 
     void out(BrokeWhere x, int version, int set, int sizes) {

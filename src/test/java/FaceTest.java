@@ -60,6 +60,12 @@ public final class FaceTest {
             }
             check.so(m + " takes at most seven", m.getParameterCount() <= 7);
         }
+        for (Class<?> inside : face.getDeclaredClasses()) {
+            for (Method m : inside.getDeclaredMethods()) {
+                check.so(m + " has a name of its own", !names.contains(m.getName()));
+                check.so(m + " takes at most seven", m.getParameterCount() <= 7);
+            }
+        }
     }
 
     private static void constants(Check check, Class<?> face) throws Exception {

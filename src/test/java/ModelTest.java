@@ -167,7 +167,8 @@ public final class ModelTest {
         String often = "!&|abcdefghijklm!&|";
         int count = any(1, 14);
         for (int i = 0; i < count; i++) {
-            say(rarely() ? far() : random.nextInt(15) == 0 ? any(30, 130) : often.charAt(random.nextInt(often.length())));
+            int usual = random.nextInt(15) == 0 ? any(30, 130) : often.charAt(random.nextInt(often.length()));
+            say(rarely() ? far() : usual);
             due("fault()", x.fault(), m.fault());
         }
         if (random.nextInt(3) > 0) {

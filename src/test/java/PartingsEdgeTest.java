@@ -198,6 +198,16 @@ public final class PartingsEdgeTest {
         EDGE.mean(x, 31, 17 + 6, 2);
         x.set(0, 3, 0);
         EDGE.worst(x, 31, 2, 2);
+        x.set(2, 3, 1);
+        EDGE.due("the sum asked first, version 0 costs 2", x.mean(15, 0), 24);
+        EDGE.due("the tests asked first", x.worst(15, 0), 1);
+        BrokeWhere y = Made.apart(1, 1, 1, 1);
+        EDGE.worst(y, 15, 3, 0);
+        EDGE.mean(y, 15, 9, 0);
+        // it has 0 and 1 and so parts what was there ahead of it
+        y.version(0, 1, 1);
+        EDGE.worst(y, 15, 2, 4);
+        EDGE.mean(y, 15, 8, 4);
     }
 
     private static void twins() {

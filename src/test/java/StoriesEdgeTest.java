@@ -186,19 +186,24 @@ public final class StoriesEdgeTest {
         for (int sort = 0; sort < 3; sort++) {
             EDGE.sorts(empty, sort, 0, 1);
         }
-        BrokeWhere alone = Made.chain(9);
-        Made.faith(alone, 1, 9, 9);
-        EDGE.sorts(alone, 0, 1, 1);
-        EDGE.sorts(alone, 1, 0, 1);
-        EDGE.sorts(alone, 2, 0, 1);
-        EDGE.odds(alone, 0, 0, 0, 1, 1);
-        EDGE.blame(alone, 0, 1, 1);
-        EDGE.hope(alone, 0, 1, 1);
+        alone(1);
+        alone(9);
+    }
+
+    private static void alone(int size) {
+        BrokeWhere x = Made.chain(size);
+        Made.faith(x, 1, 9, 9);
+        EDGE.sorts(x, 0, 1, 1);
+        EDGE.sorts(x, 1, 0, 1);
+        EDGE.sorts(x, 2, 0, 1);
+        EDGE.odds(x, 0, 0, 0, 1, 1);
+        EDGE.blame(x, 0, 1, 1);
+        EDGE.hope(x, 0, 1, 1);
     }
 
     /** Fractions whose numbers are as great as they come, against big numbers. */
     private static void greatFractions() {
-        EDGE.words("by exact odds");
+        EDGE.words("which change did it, by exact odds");
         BrokeWhere x = new BrokeWhere();
         Model m = new Model();
         int[] on = {-1, 0, -1, 2, 1, 0, 4, 3, -1, 8, 9, 6};

@@ -169,7 +169,9 @@ public final class TruthEdgeTest {
             EDGE.due("none", x.fails(0, 0), 0);
         }
         EDGE.words("! and a text (not so); & or | and two texts (both; one at least)");
-        String[] texts = {"!a", "!!a", "&ag", "|ag", "&!ag", "&a!g", "|!ag", "!|ag", "!&ag", "&aa", "|gg", "|a!a", "&g!g"};
+        String[] texts = {
+            "!a", "!!a", "&ag", "|ag", "&!ag", "&a!g", "|!ag", "!|ag", "!&ag", "&aa", "|gg", "|a!a", "&g!g"
+        };
         // bits for the four sets of a and g: 1 none, 2 a, 4 g, 8 both
         int[] due = {5, 10, 8, 14, 4, 2, 13, 1, 7, 10, 12, 15, 0};
         int[] sets = {0, 1, 64, 65};
@@ -407,6 +409,7 @@ public final class TruthEdgeTest {
         EDGE.words("SOUND sets of what it HAS that FAIL");
         EDGE.cores(x, 1, 3);
         EDGE.cores(x, 0);
+        coresOfWhatItHas();
         Made.tell(x, "&a!a");
         EDGE.cores(x, 2);
         Made.tell(x, "l");
@@ -428,6 +431,15 @@ public final class TruthEdgeTest {
         EDGE.due("unknown ahead", y.core(1, -1), UNKNOWN);
     }
 
+    private static void coresOfWhatItHas() {
+        BrokeWhere x = Made.apart(Made.times(12, 1));
+        for (int c = 0; c < 12; c++) {
+            Made.tell(x, "" + (char) ('a' + c));
+            EDGE.cores(x, c, 1 << c);
+            EDGE.cores(x, (c + 1) % 12);
+        }
+    }
+
     private static void coresOfSound() {
         EDGE.words("but none of their parts that are SOUND does");
         BrokeWhere x = Made.chain(1, 1, 1, 1);
@@ -444,10 +456,21 @@ public final class TruthEdgeTest {
         x.set(0, 2, 0);
         x.set(2, 2, 0);
         EDGE.cores(x, 3, 4);
-        // sets between the two do not fail
-        Made.tell(x, "|&a&b&cd&a!b");
-        x.set(1, 2, 0);
-        EDGE.cores(x, 3, 1);
+        coresFarBelow();
+    }
+
+    /** A part that fails counts, though the sets between the two do not fail. */
+    private static void coresFarBelow() {
+        BrokeWhere x = Made.chain(Made.times(12, 1));
+        for (int c = 0; c < 11; c++) {
+            String both = "&" + (char) ('a' + c) + (char) ('b' + c);
+            String none = "&!" + (char) ('a' + c) + "!" + (char) ('b' + c);
+            Made.tell(x, "|" + both + none);
+            EDGE.cores(x, 11, 0);
+            int other = (c + 4) % 12;
+            Made.tell(x, "&" + (char) ('a' + other) + "|" + both + none);
+            EDGE.cores(x, 11, 1 << other);
+        }
     }
 
     private static void manyCores() {
